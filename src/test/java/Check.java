@@ -1,0 +1,67 @@
+/** Counts what is not as due; each test ends with over(). */
+final class Check {
+    interface Call {
+        void go();
+    }
+
+    private static int wrong = 0;
+
+    private Check() {
+    }
+
+    static void due(String call, long got, long want) {
+        if (got != want) {
+            tell(call + " answered " + got + ", due is " + want);
+        }
+    }
+
+    static void due(String call, boolean got, boolean want) {
+        if (got != want) {
+            tell(call + " answered " + got + ", due is " + want);
+        }
+    }
+
+    static void due(String call, String got, String want) {
+        if (!got.equals(want)) {
+            tell(call + " answered " + got + ", due is " + want);
+        }
+    }
+
+    /** The very class is due: the machine's own exceptions stand below those of the document. */
+    static void noSuchElement(String call, Call made) {
+        due(call, thrownBy(made), "NoSuchElementException");
+    }
+
+    static void illegalArgument(String call, Call made) {
+        due(call, thrownBy(made), "IllegalArgumentException");
+    }
+
+    static void illegalState(String call, Call made) {
+        due(call, thrownBy(made), "IllegalStateException");
+    }
+
+    static void outOfBounds(String call, Call made) {
+        due(call, thrownBy(made), "IndexOutOfBoundsException");
+    }
+
+    static void over() {
+        if (wrong != 0) {
+            System.out.println(wrong + " answers are not as due");
+            System.exit(1);
+        }
+    }
+
+    private static String thrownBy(Call made) {
+        try {
+            made.go();
+            return "nothing";
+        } catch (RuntimeException e) {
+            return e.getClass().getSimpleName();
+        }
+    }
+
+    private static void tell(String what) {
+        wrong++;
+        System.out.println(what);
+    }
+}
