@@ -27,7 +27,6 @@ final class Check {
         }
     }
 
-    /** The very class is due: the machine's own exceptions stand below those of the document. */
     static void noSuchElement(String call, Call made) {
         due(call, thrownBy(made), "NoSuchElementException");
     }
@@ -56,8 +55,16 @@ final class Check {
             made.go();
             return "nothing";
         } catch (RuntimeException e) {
-            return e.getClass().getSimpleName();
+            return nameOf(e);
         }
+    }
+
+    /** What the library throws, though of the same class, is not what the class under test threw. */
+    static String nameOf(RuntimeException e) {
+        StackTraceElement[] trace = e.getStackTrace();
+        String thrower = trace.length == 0 ? "?" : trace[0].getClassName();
+        String name = e.getClass().getSimpleName();
+        return thrower.equals("Archeloft") ? name : name + " of " + thrower;
     }
 
     private static void tell(String what) {

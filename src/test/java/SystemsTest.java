@@ -45,6 +45,13 @@ public final class SystemsTest {
         for (int number = 0; number < 8; number++) {
             Check.due("stage(" + number + ")", x.stage(number), due[number]);
         }
+
+        Archeloft y = new Archeloft();
+        y.system(0, 1);
+        y.system(1, 2);
+        y.system(4, 0);
+        Check.due("system: above the highest one it bars, not the last one", y.system(2, 4), 2);
+        Check.due("stages: the highest one need not be the last one", y.system(0, 32) + y.stages(), 3);
     }
 
     private static void stageRefuses() {
