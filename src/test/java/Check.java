@@ -4,6 +4,10 @@ final class Check {
         void go();
     }
 
+    interface CallOf {
+        void go(Archeloft x);
+    }
+
     private static int wrong = 0;
 
     private Check() {
@@ -41,6 +45,17 @@ final class Check {
 
     static void outOfBounds(String call, Call made) {
         due(call, thrownBy(made), "IndexOutOfBoundsException");
+    }
+
+    /** The call is refused, and behind it the store tells the same story as a twin that never saw it. */
+    static void refused(State state, String call, String exception, CallOf made) {
+        Archeloft x = new Archeloft();
+        Archeloft twin = new Archeloft();
+        state.build(x);
+        state.build(twin);
+        due(state + ": " + call, thrownBy(() -> made.go(x)), exception);
+        String change = Story.difference(Story.of(x), Story.of(twin));
+        due(state + ": refused " + call + " has changed", change, "none");
     }
 
     static void over() {

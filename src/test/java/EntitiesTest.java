@@ -11,6 +11,7 @@ public final class EntitiesTest {
         endRefuses();
         adoptTellsParentBefore();
         adoptRefuses();
+        adoptAlongTheLongestChain();
         entitiesAreCounted();
         isThereTellsOldHandles();
         childrenAreSlots();
@@ -148,6 +149,23 @@ public final class EntitiesTest {
         Check.due("adopt: refused in a walk", y.children(1), 0);
     }
 
+    private static void adoptAlongTheLongestChain() {
+        Archeloft x = withEntities(32);
+        for (int slot = 0; slot < 31; slot++) {
+            x.adopt(slot, slot + 1);
+        }
+        for (int slot = 0; slot < 32; slot++) {
+            int below = slot;
+            Check.illegalArgument("adopt: 31 would go with " + slot, () -> x.adopt(31, below));
+            Check.due("adopt: and has no parent", x.adopt(31, Archeloft.NONE), Archeloft.NONE);
+        }
+        x.adopt(15, Archeloft.NONE);
+        Check.due("adopt: of the part cut off", x.adopt(31, 15), Archeloft.NONE);
+        Check.illegalArgument("adopt: the other way round now", () -> x.adopt(15, 16));
+        Check.due("adopt: the head of all has two", x.children(15), (1 << 14) | (1 << 31));
+        Check.due("adopt: all end with it", x.end(15), 32);
+    }
+
     private static void entitiesAreCounted() {
         Archeloft x = withEntities(3);
         Check.due("entities: three", x.entities(), 3);
@@ -155,6 +173,10 @@ public final class EntitiesTest {
         Check.due("entities: of all rows", x.entities(), 3);
         x.end(1);
         Check.due("entities: two", x.entities(), 2);
+        x.end(0);
+        x.end(2);
+        Check.due("entities: none again", x.entities(), 0);
+        Check.due("entities: all slots", withEntities(32).entities(), 32);
     }
 
     private static void isThereTellsOldHandles() {
@@ -182,6 +204,11 @@ public final class EntitiesTest {
         Check.due("children: slots 3 and 31", x.children(0), (1 << 3) | (1 << 31));
         Check.due("children: of the child", x.children(35), 1 << 5);
         x.end(35);
+        Archeloft all = withEntities(32);
+        for (int slot = 0; slot < 31; slot++) {
+            all.adopt(slot, 31);
+        }
+        Check.due("children: 31 of them", all.children(31), Integer.MAX_VALUE);
         Check.due("children: one has ended", x.children(0), 1 << 31);
         x.make();
         Check.due("children: a new one in its slot", x.children(0), 1 << 31);

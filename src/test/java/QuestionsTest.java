@@ -9,7 +9,10 @@ public final class QuestionsTest {
         answersOfEachSet();
         answersComeRowByRow();
         answeringRowsCountEmptyOnes();
+        answeringRowsOfAllSets();
+        allSlotsAnswer();
         changedIsLater();
+        changedCountsEntities();
         allRefuseOtherNumbers();
         Check.over();
     }
@@ -93,6 +96,70 @@ public final class QuestionsTest {
         Check.due("answeringRows: with kind 0", x.answeringRows(1), 2);
         Check.due("answeringRows: without kind 0, with 1 or 2", x.answeringRows(2), 1);
         Check.due("answeringRows: no answers", x.answers(0), 0);
+    }
+
+    private static void answeringRowsOfAllSets() {
+        Archeloft x = new Archeloft();
+        int handle = x.make();
+        // each step of this walk through all sets changes one kind
+        for (int step = 1; step < 64; step++) {
+            int kind = Integer.numberOfTrailingZeros(step);
+            if ((x.kinds(handle) & (1 << kind)) == 0) {
+                x.add(handle, kind, 0);
+            } else {
+                x.take(handle, kind);
+            }
+        }
+        Check.due("answeringRows: all", x.answeringRows(x.question(0, 0, 0)), 64);
+        Check.due("answeringRows: with 0 and 5", x.answeringRows(x.question(33, 0, 0)), 16);
+        Check.due("answeringRows: without 0 and 5", x.answeringRows(x.question(0, 33, 0)), 16);
+        Check.due("answeringRows: with 0 or 5", x.answeringRows(x.question(0, 0, 33)), 48);
+        Check.due("answeringRows: the empty set alone", x.answeringRows(x.question(0, 63, 0)), 1);
+        Check.due("answeringRows: the full set alone", x.answeringRows(x.question(63, 0, 0)), 1);
+        Check.due("answeringRows: none at all", x.answeringRows(x.question(1, 1, 0)), 0);
+        Check.due("answeringRows: one of them has an answer", x.answers(0), 1);
+    }
+
+    private static void allSlotsAnswer() {
+        Archeloft x = new Archeloft();
+        x.question(0, 0, 0);
+        x.question(0, 1, 0);
+        Check.due("answers: of a new object", x.answers(0), 0);
+        Check.due("answersOneByOne: of a new object", x.answersOneByOne(0), 0);
+        Check.outOfBounds("answer: of a new object", () -> x.answer(0, 0));
+        for (int slot = 0; slot < 32; slot++) {
+            x.make();
+        }
+        x.add(31, 0, 0);
+        Check.due("answers: all", x.answers(0), 32);
+        Check.due("answersOneByOne: all", x.answersOneByOne(0), 32);
+        Check.due("answer: the last one", x.answer(0, 31), 31);
+        Check.outOfBounds("answer: behind it", () -> x.answer(0, 32));
+        Check.due("answers: all but one", x.answers(1), 31);
+        Check.due("answersOneByOne: all but one", x.answersOneByOne(1), 31);
+        Check.outOfBounds("answer: behind them", () -> x.answer(1, 31));
+    }
+
+    private static void changedCountsEntities() {
+        Archeloft x = new Archeloft();
+        x.make();
+        x.make();
+        x.question(0, 0, 0);
+        x.question(63, 0, 0);
+        Check.due("changed: without components", x.changed(0, Integer.MIN_VALUE), 0);
+        for (int kind = 0; kind < 6; kind++) {
+            x.add(0, kind, 0);
+            Check.due("changed: counted once", x.changed(0, -1), 1);
+        }
+        for (int kind = 0; kind < 6; kind++) {
+            int before = x.tick();
+            x.run();
+            Check.due("changed: a tick alone changes nothing", x.changed(1, before), 0);
+            x.set(0, kind, 0);
+            Check.due("changed: kind " + kind + " alone", x.changed(1, before), 1);
+        }
+        Check.due("changed: some are older, one is not", x.changed(1, 5), 1);
+        Check.due("changed: none is newer than now", x.changed(1, 6), 0);
     }
 
     private static void changedIsLater() {

@@ -37,9 +37,8 @@ public final class RowsTest {
         int handle = x.make();
         // each step of this walk through all sets changes one kind
         for (int step = 1; step < 64; step++) {
-            int change = (step ^ (step >> 1)) ^ ((step - 1) ^ ((step - 1) >> 1));
-            int kind = Integer.numberOfTrailingZeros(change);
-            if ((x.kinds(handle) & change) == 0) {
+            int kind = Integer.numberOfTrailingZeros(step);
+            if ((x.kinds(handle) & (1 << kind)) == 0) {
                 x.add(handle, kind, step);
             } else {
                 x.take(handle, kind);
@@ -75,6 +74,19 @@ public final class RowsTest {
         x.end(0);
         Check.due("size of an empty row", x.size(0), 0);
         Check.outOfBounds("size(2)", () -> x.size(2));
+        Archeloft full = new Archeloft();
+        for (int slot = 0; slot < 32; slot++) {
+            full.make();
+            Check.due("size of a growing row", full.size(0), slot + 1);
+        }
+        for (int slot = 0; slot < 32; slot++) {
+            full.add(slot, 2, 0);
+        }
+        Check.due("size: all have left", full.size(0), 0);
+        Check.due("size: all are here", full.size(1), 32);
+        Check.due("entityAt: the last place", full.entityAt(1, 31), 31);
+        Check.outOfBounds("entityAt: behind it", () -> full.entityAt(1, 32));
+        Check.outOfBounds("entityAt: of the empty row", () -> full.entityAt(0, 0));
         for (int row : NO_NUMBERS) {
             Check.outOfBounds("size(" + row + ")", () -> x.size(row));
         }

@@ -8,6 +8,8 @@ public final class SystemsTest {
         runAddsUpAsTheyAre();
         runGoesByStages();
         runTakesRightEntities();
+        runOfEightStages();
+        runOfAllThereCanBe();
         runRefuses();
         tickGrowsByRuns();
         Check.over();
@@ -139,6 +141,34 @@ public final class SystemsTest {
         x.adopt(0, 1);
         x.end(1);
         Check.due("run: ended ones are left", x.run(), 0);
+    }
+
+    private static void runOfEightStages() {
+        Archeloft x = new Archeloft();
+        x.make();
+        x.add(0, 0, 0);
+        for (int number = 0; number < 8; number++) {
+            Check.due("system: each in its stage", x.system(1, 1), number);
+        }
+        Check.due("run: eight values", x.run(), 8);
+        Check.due("run: v and v and 1, eight times", x.value(0, 0), 255);
+        Check.due("run: one tick", x.tick(), 1);
+    }
+
+    private static void runOfAllThereCanBe() {
+        Archeloft x = new Archeloft();
+        for (int slot = 0; slot < 32; slot++) {
+            x.make();
+            for (int kind = 0; kind < 6; kind++) {
+                x.add(slot, kind, slot);
+            }
+        }
+        for (int number = 0; number < 8; number++) {
+            x.system(0, 63);
+        }
+        Check.due("run: 8 times 32 times 6", x.run(), 1536);
+        Check.due("run: the first value", x.value(0, 0), 8);
+        Check.due("run: the last value", x.value(31, 5), 39);
     }
 
     private static void runRefuses() {

@@ -10,6 +10,8 @@ public final class WalksTest {
         finishLeavesOut();
         finishMakes();
         finishMakesBothOrNeither();
+        finishDoesTwenty();
+        finishMakesWhereOthersEnded();
         finishRefuses();
         Check.over();
     }
@@ -160,6 +162,29 @@ public final class WalksTest {
         Check.due("finish: one slot is free", full.finish(), 1);
         Check.due("finish: all slots are taken", full.entities(), 32);
         Check.due("finish: by the first one", full.value(31, 0), 1);
+    }
+
+    private static void finishDoesTwenty() {
+        Archeloft x = withWalk(0);
+        for (int i = 0; i < 20; i++) {
+            Check.due("defer: one more", x.defer(Archeloft.MAKE, Archeloft.NONE, i % 6, i), i + 1);
+        }
+        Check.due("finish: twenty", x.finish(), 20);
+        Check.due("finish: twenty entities", x.entities(), 20);
+        Check.due("finish: the first one", x.value(0, 0), 0);
+        Check.due("finish: the last one", x.value(19, 1), 19);
+    }
+
+    private static void finishMakesWhereOthersEnded() {
+        Archeloft x = withWalk(32);
+        x.defer(Archeloft.MAKE, 0, 1, 1);
+        x.defer(Archeloft.END, 20, 0, 0);
+        x.defer(Archeloft.MAKE, 0, 9, 2);
+        x.defer(Archeloft.MAKE, 0, 1, 3);
+        x.defer(Archeloft.MAKE, 0, 1, 4);
+        Check.due("finish: one end, one make", x.finish(), 2);
+        Check.due("finish: all slots are taken again", x.entities(), 32);
+        Check.due("finish: the make behind the end", x.value(52, 1), 3);
     }
 
     private static void finishRefuses() {
