@@ -1,14 +1,26 @@
 import java.io.IOException;
+import java.lang.reflect.Constructor;
+import java.lang.reflect.Field;
+import java.lang.reflect.Method;
+import java.lang.reflect.Modifier;
 import java.nio.file.Files;
 import java.nio.file.Path;
+import java.util.ArrayList;
+import java.util.Arrays;
 import java.util.List;
 import java.util.regex.Matcher;
 import java.util.regex.Pattern;
 
-/** What of ../shared/LANGUAGE.md can be seen in the letters of the class; started from the project's directory. */
+/**
+ * What of ../shared/LANGUAGE.md can be seen in the letters of the class and by reflection; started from the
+ * project's directory.
+ */
 public final class LanguageTest {
     private static final Path SOURCE = Path.of("src", "main", "java", "Archeloft.java");
     private static final int MOST_LINES = 60;
+    private static final int MOST_CLASSES = 12;
+    private static final int MOST_FIELDS = 20;
+    private static final int MOST_PARAMETERS = 7;
     private static final String[] REFUSED = {
         "\\bpackage\\b", "\\bfinally\\b", "\\bsynchronized\\b", "\\bassert\\b", "\\btry\\s*\\(", "->", "::",
         "\\bvolatile\\b", "\\bnative\\b", "\\bThread\\b", "\\bRandom\\b", "\\bSystem\\.(?!arraycopy)",
@@ -25,6 +37,7 @@ public final class LanguageTest {
         imports(code);
         thrownClasses(code);
         methodsAreShort(lines);
+        classesAreSmall();
         Check.over();
     }
 
@@ -73,5 +86,44 @@ public final class LanguageTest {
         }
         Check.due("methods were found", longest > 0, true);
         Check.due("no method is longer than " + MOST_LINES + " lines", longest <= MOST_LINES, true);
+    }
+
+    private static void classesAreSmall() {
+        List<Class<?>> classes = new ArrayList<>(Arrays.asList(Archeloft.class.getDeclaredClasses()));
+        for (Class<?> inside : classes) {
+            Check.due(inside.getName() + " is static", Modifier.isStatic(inside.getModifiers()), true);
+            Check.due(inside.getName() + " is hidden",
+                    Modifier.isPublic(inside.getModifiers()) || Modifier.isProtected(inside.getModifiers()), false);
+        }
+        classes.add(Archeloft.class);
+        Check.due("there are at most " + MOST_CLASSES + " classes", classes.size() <= MOST_CLASSES, true);
+        for (Class<?> one : classes) {
+            fieldsAreFew(one);
+            parametersAreFew(one);
+        }
+    }
+
+    private static void fieldsAreFew(Class<?> one) {
+        int fields = 0;
+        for (Field field : one.getDeclaredFields()) {
+            if (Modifier.isStatic(field.getModifiers())) {
+                Check.due(one.getName() + "." + field.getName() + " is a constant of a plain type",
+                        Modifier.isFinal(field.getModifiers()) && field.getType() == int.class, true);
+            } else {
+                fields++;
+            }
+        }
+        Check.due(one.getName() + " has at most " + MOST_FIELDS + " fields", fields <= MOST_FIELDS, true);
+    }
+
+    private static void parametersAreFew(Class<?> one) {
+        for (Method method : one.getDeclaredMethods()) {
+            Check.due(one.getName() + "." + method.getName() + " takes at most " + MOST_PARAMETERS + " parameters",
+                    method.getParameterCount() <= MOST_PARAMETERS, true);
+        }
+        for (Constructor<?> made : one.getDeclaredConstructors()) {
+            Check.due(one.getName() + " is made of at most " + MOST_PARAMETERS + " parameters",
+                    made.getParameterCount() <= MOST_PARAMETERS, true);
+        }
     }
 }
